@@ -94,7 +94,6 @@ public final class Marginhouse {
     private int knocks;
 
     public Marginhouse() {
-        knocks = 0;
     }
 
     // ---- members, series, scenarios
@@ -387,22 +386,8 @@ public final class Marginhouse {
             throw new IllegalArgumentException("a scenario is played 1 to 9 times");
         }
         needWhat(what, 4);
-        copy.copyFrom(now);
-        copy.playPrices(scenario, times);
-        int out = settling.run(copy);
-        int[] borne = copy.till.borne;
-        switch (what) {
-            case 0:
-                return out;
-            case 1:
-                return borne[SHORT];
-            case 2:
-                return borne[RUNGS + SHORT];
-            case 3:
-                return borne[BY_GAINS] + borne[RUNGS + BY_GAINS];
-            default:
-                return copy.accounts.countOfCalls();
-        }
+        int out = playOnCopy(scenario, times);
+        return what == 0 ? out : ofPlayed(what);
     }
 
     public int ofTrade(int trade, int what) throws IndexOutOfBoundsException, IllegalArgumentException {
@@ -493,11 +478,7 @@ public final class Marginhouse {
         d = d * 31 + text.length();
         d = mixMoneys(d);
         d = mixPlays(d);
-        for (int trade = 0; trade < now.trades; trade++) {
-            for (int what = 0; what <= 4; what++) {
-                d = d * 31 + ofTrade(trade, what);
-            }
-        }
+        d = mixTrades(d);
         return d * 31 + (isSound() ? 1 : 0);
     }
 
@@ -551,11 +532,43 @@ public final class Marginhouse {
     private long mixPlays(long begun) {
         long d = begun;
         for (int scenario = 0; scenario < now.terms.scenarios; scenario++) {
-            for (int what = 0; what <= 4; what++) {
-                d = d * 31 + play(scenario, 2, what);
+            d = d * 31 + playOnCopy(scenario, 2);
+            for (int what = 1; what <= 4; what++) {
+                d = d * 31 + ofPlayed(what);
             }
         }
         return d;
+    }
+
+    private long mixTrades(long begun) {
+        long d = begun;
+        for (int word = diary.firstOf(now.day); word < diary.count; word++) {
+            for (int what = 0; what <= 4 && diary.isTrade(word); what++) {
+                d = d * 31 + diary.part(word, what + 1);
+            }
+        }
+        return d;
+    }
+
+    /** Answers how many members are out by it. */
+    private int playOnCopy(int scenario, int times) {
+        copy.copyFrom(now);
+        copy.playPrices(scenario, times);
+        return settling.run(copy);
+    }
+
+    private int ofPlayed(int what) {
+        int[] borne = copy.till.borne;
+        switch (what) {
+            case 1:
+                return borne[SHORT];
+            case 2:
+                return borne[RUNGS + SHORT];
+            case 3:
+                return borne[BY_GAINS] + borne[RUNGS + BY_GAINS];
+            default:
+                return copy.accounts.countOfCalls();
+        }
     }
 
     // ---- what the calls have in common
@@ -1028,16 +1041,6 @@ public final class Marginhouse {
             return good[series] == GOODS - 1 ? 1 : 0;
         }
 
-        /** How much more an option is worth, as its contract moves by so much. */
-        int moveOfWorth(int series, int by) {
-            if (!isContract(contract[series])) {
-                return 0;
-            }
-            int before = worthIfUsed(series, price[contract[series]]);
-            int after = worthIfUsed(series, price[contract[series]] + by);
-            return (after > 0 ? after : 0) - (before > 0 ? before : 0);
-        }
-
         /** What using an option brings at a price of its contract, also below 0. */
         int worthIfUsed(int series, int contractPrice) {
             return kind[series] == PUT ? strike[series] - contractPrice : contractPrice - strike[series];
@@ -1128,13 +1131,20 @@ public final class Marginhouse {
             }
         }
 
+        /** By how much a series moves: an option by what it is worth, as its contract moves. */
         private int moveOf(int scenario, int series, int times) {
             int at = scenario * GOODS + listing.good[series];
             if (at < 0 || at >= SCENARIOS * GOODS) {
                 return 0;
             }
             int by = times * (terms.shift[at] + terms.tilt[at] * listing.month[series]);
-            return listing.kind[series] == CONTRACT ? by : listing.moveOfWorth(series, by);
+            int contract = listing.contract[series];
+            if (contract < 0 || contract >= SERIES) {
+                return by;
+            }
+            int before = listing.worthIfUsed(series, listing.price[contract]);
+            int after = listing.worthIfUsed(series, listing.price[contract] + by);
+            return (after > 0 ? after : 0) - (before > 0 ? before : 0);
         }
 
         /** From the last series on: an option comes behind its contract, and moves by that one's price before. */
@@ -1175,7 +1185,8 @@ public final class Marginhouse {
                 int lots = 0;
                 for (int series = 0; series < listing.count; series++) {
                     if (listing.good[series] == good) {
-                        lots += unsigned(accounts.position[account * SERIES + series]);
+                        int held = accounts.position[account * SERIES + series];
+                        lots += held < 0 ? -held : held;
                     }
                 }
                 if (lots > terms.big[good]) {
@@ -1272,8 +1283,8 @@ public final class Marginhouse {
             this.spread = spread;
         }
 
+        /** The arguments a to e stand as in the face, each kind has as many as it needs. */
         int perform(House h, int kind, int a, int b, int c, int d, int e) {
-            // The trade has the whole row, and a method takes no more than seven.
             switch (kind) {
                 case SAY_MEMBER: return addMember(h, a);
                 case SAY_CLIENT: return addClient(h, a);
@@ -1620,12 +1631,9 @@ public final class Marginhouse {
 
         /** The weights become the positions with this sign, without it. */
         private void putHolders(House h, int series, int sign) {
-            spread.clear();
             for (int account = 0; account < ACCOUNTS; account++) {
                 int lots = h.accounts.position[account * SERIES + series] * sign;
-                if (lots > 0) {
-                    spread.put(account, lots);
-                }
+                spread.put(account, lots > 0 ? lots : 0);
             }
         }
 
@@ -1844,7 +1852,6 @@ public final class Marginhouse {
         }
 
         private int bearByGains(Accounts accounts, int money, int missing) {
-            spread.clear();
             for (int account = 0; account < ACCOUNTS; account++) {
                 spread.put(account, Math.max(0, accounts.due[account * MONEYS + money]));
             }
@@ -1916,7 +1923,7 @@ public final class Marginhouse {
             firstWord[h.day % KEPT] = count;
         }
 
-        private int firstOf(int day) {
+        int firstOf(int day) {
             return day < 0 ? 0 : firstWord[day % KEPT];
         }
 
@@ -1935,11 +1942,15 @@ public final class Marginhouse {
             }
         }
 
+        boolean isTrade(int word) {
+            return part(word, 0) == SAY_TRADE;
+        }
+
         /** The word by which a trade of the day was made. */
         int wordOfTrade(int day, int trade) {
             int trades = 0;
             for (int word = firstOf(day); word < count; word++) {
-                if (part(word, 0) == SAY_TRADE) {
+                if (isTrade(word)) {
                     if (trades == trade) {
                         return word;
                     }
