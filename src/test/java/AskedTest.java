@@ -200,6 +200,12 @@ public final class AskedTest {
         x.settle();
         x.price(0, 11);
         C.due("at the new price", 3, x.moved(0, 2));
+        x.contract(0, 1, 50);
+        C.due("a contract that has come since", 4, x.moved(0, 5));
+        x.option(5, false, 52, 2);
+        C.due("an option that has come since", -2, x.moved(0, 6));
+        x.undo();
+        x.undo();
         C.noIndex("scenario -1", x, () -> x.moved(-1, 0));
         C.noIndex("scenario 1", x, () -> x.moved(1, 0));
         C.noIndex("series -1", x, () -> x.moved(0, -1));

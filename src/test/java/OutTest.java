@@ -142,6 +142,10 @@ public final class OutTest {
         C.due("accounts of the one that is out", 2, x.ofMember(1, 8));
         C.due("accounts of the other", 4, x.ofMember(0, 8));
         C.noIndex("its old number is none", x, () -> x.position(6, 1));
+        C.due("the sum of balances", 100, x.total(1, 0));
+        C.due("the sum of dues", 20, x.total(1, 5));
+        C.due("the sum of positions", 4, x.ofSeries(1, 7));
+        C.due("isSound()", true, x.isSound());
         C.due("it can trade", 0, x.trade(3, 8, 1, 1, 45));
         C.due("settle()", 0, x.settle());
         C.due("balance", 70, x.ofAccount(3, 1));

@@ -204,6 +204,8 @@ public final class SetupTest {
         C.due("rate(9)", 1, x.rate(9));
         C.due("cover", 90, x.ofAccount(0, 5));
         C.due("house(9)", 9, x.house(9));
+        x.undo();
+        C.due("undone", 1, x.house(9));
         C.noValue("rate(0)", x, () -> x.rate(0));
         C.noValue("rate(10)", x, () -> x.rate(10));
         C.noValue("rate(lowest)", x, () -> x.rate(LOWEST));
@@ -246,6 +248,8 @@ public final class SetupTest {
         C.due("offset(10)", 0, x.offset(10));
         C.due("loss", 35, x.loss(0, 0));
         C.due("house(10)", 10, x.house(10));
+        x.undo();
+        C.due("undone", 0, x.house(10));
         C.noValue("offset(-1)", x, () -> x.offset(-1));
         C.noValue("offset(11)", x, () -> x.offset(11));
     }
@@ -290,6 +294,8 @@ public final class SetupTest {
         x.stress(11);
         C.due("target is rounded up", 3, x.house(12));
         C.due("house(11)", 11, x.house(11));
+        x.undo();
+        C.due("undone", 50, x.house(11));
         C.noValue("stress(-1)", x, () -> x.stress(-1));
         C.noValue("stress(51)", x, () -> x.stress(51));
     }

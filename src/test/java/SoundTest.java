@@ -1,3 +1,5 @@
+import java.lang.reflect.Field;
+
 /** Promises 44 and 45: isSound and digest. */
 public final class SoundTest {
     private static final Check C = new Check("SoundTest");
@@ -6,6 +8,7 @@ public final class SoundTest {
 
     public static void main(String[] args) {
         isSound();
+        isNotSound();
         digest();
         digestTellsChanges();
         C.end();
@@ -28,6 +31,61 @@ public final class SoundTest {
         y.undo();
         y.undo();
         C.due("behind undone steps", true, y.isSound());
+    }
+
+    /** No call can make a house unsound, so the rows inside it are spoilt from outside. */
+    private static void isNotSound() {
+        C.promise(44, "isSound, of a house that is spoilt");
+        notSound("a balance", "accounts.balance", 0, 1);
+        notSound("a balance in money 1", "accounts.balance", 1, 1);
+        notSound("the fund", "members.fund", 0, 1);
+        notSound("the part", "till.part", 1, 1);
+        notSound("paid in", "till.paidIn", 0, 1);
+        notSound("paid out", "till.paidOut", 1, 1);
+        notSound("a due", "accounts.due", 0, 1);
+        notSound("a due in money 1", "accounts.due", 1, -1);
+        notSound("a position", "accounts.position", 0, 1);
+        notSound("a position in series 1", "accounts.position", 1, 1);
+        notSound("what was short", "till.borne", 0, 1);
+        notSound("what was borne", "till.borne", 3, 1);
+        notSound("what was borne in money 1", "till.borne", 9, 1);
+        notSound("a fund below 0", "members.fund", 0, -1, "till.part", 0, 1);
+        notSound("a part below 0", "till.part", 1, -1, "members.fund", 1, 1);
+        notSound("balances that words do not make", "accounts.balance", 0, -1, "accounts.balance", 2, 1);
+        notSound("a due that words do not make", "accounts.due", 0, -1, "accounts.due", 2, 1);
+        notSound("positions that words do not make", "accounts.position", 0, -1, "accounts.position", 8, 1);
+        notSound("a word that can not be said", "diary.row", 6 * 13 + 1, 19);
+    }
+
+    /** Adds to numbers in rows of the house, each told as the row, the place in it, and how much. */
+    private static void notSound(String what, Object... spoilt) {
+        Marginhouse x = Houses.withOneOut();
+        // The fourteenth word of all.
+        x.trade(0, 8, 0, 1, 60);
+        C.due("isSound() at first", true, x.isSound());
+        for (int i = 0; i < spoilt.length; i += 3) {
+            row(x, (String) spoilt[i])[(Integer) spoilt[i + 1]] += (Integer) spoilt[i + 2];
+        }
+        C.due("isSound() with " + what, false, x.isSound());
+    }
+
+    private static int[] row(Marginhouse x, String path) {
+        String[] names = path.split("[.]");
+        Object at = names[0].equals("diary") ? x : get(x, "now");
+        for (String name : names) {
+            at = get(at, name);
+        }
+        return (int[]) at;
+    }
+
+    private static Object get(Object of, String name) {
+        try {
+            Field field = of.getClass().getDeclaredField(name);
+            field.setAccessible(true);
+            return field.get(of);
+        } catch (ReflectiveOperationException e) {
+            throw new AssertionError(e);
+        }
     }
 
     /** The sum of the document, of what the face answers. */
