@@ -90,7 +90,7 @@ public final class Marginhouse {
     private final House copy = new House();
     private final Diary diary = new Diary();
     private final Steps steps = new Steps();
-    private final StringBuilder text = new StringBuilder(128);
+    private final StringBuilder text = new StringBuilder();
     private int knocks;
 
     public Marginhouse() {
