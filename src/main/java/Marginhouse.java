@@ -27,7 +27,7 @@ public final class Marginhouse {
     private static final int MOST_PRICE = 99;
     private static final int MOST_AMOUNT = 9999;
 
-    // The last kept step may lie a settling for each step back, so the mornings and houses kept are one more.
+    // Each of the last steps may be a settling, so one more morning than steps can be needed.
     private static final int KEPT = STEPS + 1;
     // An object is used for 512 calls, so more words never come.
     private static final int WORDS = 512;
