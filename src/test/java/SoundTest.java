@@ -31,11 +31,29 @@ public final class SoundTest {
         y.undo();
         y.undo();
         C.due("behind undone steps", true, y.isSound());
+        for (int good = 1; good <= 2; good++) {
+            Marginhouse z = new Marginhouse();
+            int money = good - 1;
+            Script.say(z, "3* member 0; contract " + good + " 0 50; trade 0 4 0 1 54; trade 0 8 0 1 56; give 0 " + money + " 1",
+                    "endow " + money + " 2; give 1 " + money + " 3; pay 4 " + money + " 9; take 4 " + money + " 5");
+            C.due("with a fund, a part, and something paid out", true, z.isSound());
+            z.settle();
+            for (int what = 1; what <= 4; what++) {
+                C.due("borne", what, z.borne(money, what));
+            }
+            C.due("with something borne on each rung", true, z.isSound());
+            Script.say(z, "give 1 " + money + " 3; endow " + money + " 7; price 0 40");
+            C.due("with a fund and a part again", true, z.isSound());
+        }
     }
 
     /** No call can make a house unsound, so the rows inside it are spoilt from outside. */
     private static void isNotSound() {
         C.promise(44, "isSound, of a house that is spoilt");
+        if (!hasRows()) {
+            System.out.println("SoundTest: the house is held in other rows than this test knows, and is not spoilt");
+            return;
+        }
         notSound("a balance", "accounts.balance", 0, 1);
         notSound("a balance in money 1", "accounts.balance", 1, 1);
         notSound("the fund", "members.fund", 0, 1);
@@ -55,6 +73,28 @@ public final class SoundTest {
         notSound("a due that words do not make", "accounts.due", 0, -1, "accounts.due", 2, 1);
         notSound("positions that words do not make", "accounts.position", 0, -1, "accounts.position", 8, 1);
         notSound("a word that can not be said", "diary.row", 6 * 13 + 1, 19);
+        notSound("a word with a wrong value", "diary.row", 6 * 13 + 4, 99);
+        notSound("the first balance, that words do not make", "accounts.balance", 0, 1, "till.paidIn", 0, 1);
+        // The morning is spoilt alike, so that the words make what is there.
+        notSound("a balance that was not paid in", "both accounts.balance", 0, 1);
+        notSound("a balance in money 1 that was not paid in", "both accounts.balance", 1, 1);
+        notSound("a due of no other one", "both accounts.due", 0, 1);
+        notSound("a due of no other one in money 1", "both accounts.due", 1, -1);
+        notSound("a position of no other one", "both accounts.position", 0, 1);
+        notSound("a position of no other one in series 1", "both accounts.position", 1, -1);
+        notSound("a position of no other one in the last account", "both accounts.position", 8 * 9 + 1, 1);
+        notSound("a balance below 0", "both accounts.balance", 2, -1, "both accounts.balance", 0, 1);
+        notSound("a balance below 0 in money 1", "both accounts.balance", 1, -1, "both accounts.balance", 3, 1);
+    }
+
+    /** How the state is held is free, so that a class that holds it otherwise does not fail here. */
+    private static boolean hasRows() {
+        for (Field field : Marginhouse.class.getDeclaredFields()) {
+            if (field.getName().equals("now")) {
+                return true;
+            }
+        }
+        return false;
     }
 
     /** Adds to numbers in rows of the house, each told as the row, the place in it, and how much. */
@@ -64,16 +104,23 @@ public final class SoundTest {
         x.trade(0, 8, 0, 1, 60);
         C.due("isSound() at first", true, x.isSound());
         for (int i = 0; i < spoilt.length; i += 3) {
-            row(x, (String) spoilt[i])[(Integer) spoilt[i + 1]] += (Integer) spoilt[i + 2];
+            String path = (String) spoilt[i];
+            boolean isInBoth = path.startsWith("both ");
+            String place = path.substring(isInBoth ? 5 : 0);
+            row(x, place)[(Integer) spoilt[i + 1]] += (Integer) spoilt[i + 2];
+            if (isInBoth) {
+                row(x, "diary.mornings.1." + place)[(Integer) spoilt[i + 1]] += (Integer) spoilt[i + 2];
+            }
         }
         C.due("isSound() with " + what, false, x.isSound());
+        C.due("digest() with " + what, digestOf(x), x.digest());
     }
 
     private static int[] row(Marginhouse x, String path) {
         String[] names = path.split("[.]");
         Object at = names[0].equals("diary") ? x : get(x, "now");
         for (String name : names) {
-            at = get(at, name);
+            at = at instanceof Object[] all ? all[Integer.parseInt(name)] : get(at, name);
         }
         return (int[]) at;
     }
