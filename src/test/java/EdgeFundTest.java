@@ -97,6 +97,14 @@ public final class EdgeFundTest {
         S.run("2* member 0; contract 0 0 50; option 0 1 60 1; scenario; shift 0 0 10 0; trade 0 4 1 1 1", "loss 4 0 = 0",
                 "play 0 1 4 = 1", "pay 4 0 9", "play 0 1 4 = 1", "pay 4 0 1", "play 0 1 4 = 0", "play 0 2 1 = 0",
                 "play 0 2 4 = 1", "pay 4 0 10", "play 0 2 4 = 0", "house 8 = 0");
+        S.sentence("(PRICES can come below 0 in this): and are below 0 as DEPOSITS are reckoned then");
+        S.run("2* member 0; contract 0 0 0; option 0 1 0 0; 2* scenario; shift 0 0 -20 0; shift 1 0 10 0; trade 0 4 1 1 0",
+                "loss 4 1 = 10", "play 0 1 4 = 0", "play 1 1 4 = 1", "play 1 1 0 = 1", "play 1 1 1 = 10", "pay 4 0 10", "play 1 1 4 = 1",
+                "pay 4 0 10", "play 1 1 4 = 0");
+        S.run("2* member 0; contract 0 0 0; option 0 0 0 0; 2* scenario; shift 0 0 -20 0; shift 1 0 10 0; trade 0 4 1 1 0",
+                "loss 0 1 = 0", "loss 4 0 = 20", "pay 4 0 40", "play 0 1 4 = 0", "ofSeries 0 3 = 0");
+        S.run("2* member 0; contract 0 0 0; option 0 0 0 20; 2* scenario; shift 0 0 -20 0; shift 1 0 10 0; pay 4 0 40; pay 0 0 30",
+                "trade 0 4 1 1 60", "play 0 1 4 = 0", "undo", "trade 0 4 1 1 61", "play 0 1 4 = 1", "play 0 1 0 = 0");
         S.sentence("CALLS that there are fall due in it, and the ladder is gone down");
         S.run("3* member 0; contract 0 0 50; scenario; shift 0 0 -10 0; trade 0 4 0 1 50; trade 8 5 0 1 50; call 0; call 8",
                 "give 0 0 2; endow 0 5; give 1 0 4; pay 8 0 20", "play 0 1 0 = 1", "play 0 1 1 = 10", "play 0 1 3 = 0",

@@ -70,7 +70,9 @@ public final class EdgeOutTest {
         S.sentence("-9 if no ACCOUNT that is OUT has a POSITION in it");
         S.run("2* member 0; contract 0 0 50; trade 0 4 0 1 50", "tear 0 = -9", "position 0 0 = 1");
         S.run("3* member 0; contract 0 0 50; contract 0 1 50; trade 0 4 0 1 51; trade 8 4 1 1 50; settle", "tear 1 = -9",
-                "tear 0 = 1", "position 8 1 = 1");
+                "tear 0 = 1", "position 8 1 = 1", "position 4 0 = 0", "position 4 1 = -1", "isSound = 1");
+        S.run("3* member 0; contract 0 0 50; trade 4 0 0 1 49; trade 8 4 0 1 50; settle", "tear 0 = 1", "position 0 0 = 0",
+                "position 4 0 = 0", "position 8 0 = 0", "isSound = 1");
         S.sentence("their sum (if it is not 0)");
         S.run("3* member 0; contract 0 0 50; trade 0 1 0 4 51; trade 4 8 0 2 50; settle", "open = 0 1", "tear 0 = 0",
                 "position 0 0 = 0", "position 1 0 = 0", "position 4 0 = 2", "position 8 0 = -2", "open =", "tear 0 = -9");
