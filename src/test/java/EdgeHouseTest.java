@@ -20,8 +20,8 @@ public final class EdgeHouseTest {
     private static void members() {
         S.sentence("MEMBERS: at most 5, numbered from 0");
         S.run("house 0 = 0", "member 0 = 0", "member 0 = 1", "member 1 = 2", "member 0 = 3", "member 1 = 4",
-                "house 0 = 5", "house 1 = 5", "member 0 ! state", "member 1 ! state", "house 0 = 5", "ofMember 5 0 ! index",
-                "undo", "house 0 = 4", "member 0 = 4", "member 0 ! state");
+                "house 0 = 5", "house 1 = 5", "member 0 ! state", "member 1 ! state", "house 0 = 5",
+                "ofMember 5 0 ! index", "undo", "house 0 = 4", "member 0 = 4", "member 0 ! state");
         S.sentence("a LINK is one that stands for another house");
         S.run("member 1; member 0", "ofMember 0 0 = 1", "ofMember 1 0 = 0");
         S.sentence("STATE: 0 GOOD, 1 OUT (it has defaulted)");
@@ -42,8 +42,9 @@ public final class EdgeHouseTest {
                 "ofAccount 3 0 ! index", "ofAccount 4 0 = 0", "ofAccount 5 0 ! index", "ofAccount 6 0 ! index",
                 "ofAccount 7 0 ! index", "client 1 ! state", "ofMember 0 8 = 2", "ofMember 1 8 = 1");
         S.sentence("SLOTS 2 and 3 come with client(), 2 ahead of 3");
-        S.run("member 0", "client 0 = 2", "ofAccount 2 0 = 0", "ofAccount 3 0 ! index", "client 0 = 3", "ofAccount 3 0 = 0",
-                "client 0 = -9", "undo", "ofAccount 3 0 ! index", "client 0 = 3", "client 0 = -9", "client 0 = -9");
+        S.run("member 0", "client 0 = 2", "ofAccount 2 0 = 0", "ofAccount 3 0 ! index", "client 0 = 3",
+                "ofAccount 3 0 = 0", "client 0 = -9", "undo", "ofAccount 3 0 ! index", "client 0 = 3",
+                "client 0 = -9", "client 0 = -9");
     }
 
     private static void limits() {
@@ -77,16 +78,17 @@ public final class EdgeHouseTest {
         S.sentence("There are two MONEYS, 0 and 1");
         S.run("member 0", "pay 0 0 1 = 1", "pay 0 1 2 = 2", "ofAccount 0 0 = 1", "ofAccount 0 1 = 2",
                 "pay 0 2 1 ! value", "pay 0 -1 1 ! value", "give 0 0 3 = 3", "give 0 1 4 = 4", "ofMember 0 3 = 3",
-                "ofMember 0 4 = 4", "endow 0 5 = 5", "endow 1 6 = 6", "member 0; member 0",
-                "give 2 0 1 = 1", "give 2 1 2 = 2", "give 0 0 1 = 4", "total 0 1 = 5", "total 1 1 = 6", "total 0 2 = 5", "total 1 2 = 6",
-                "total 0 3 = 11", "total 1 3 = 14", "take 0 1 2 = 0", "total 0 4 = 0", "total 1 4 = 2");
+                "ofMember 0 4 = 4", "endow 0 5 = 5", "endow 1 6 = 6", "member 0; member 0", "give 2 0 1 = 1",
+                "give 2 1 2 = 2", "give 0 0 1 = 4", "total 0 1 = 5", "total 1 1 = 6", "total 0 2 = 5",
+                "total 1 2 = 6", "total 0 3 = 11", "total 1 3 = 14", "take 0 1 2 = 0", "total 0 4 = 0",
+                "total 1 4 = 2");
     }
 
     private static void balances() {
         S.sentence("a BALANCE (never below 0) and DUE; both 0 at first");
-        S.run("2* member 0; client 0", "ofAccount 0 0 = 0", "ofAccount 1 1 = 0", "ofAccount 2 2 = 0", "ofAccount 2 3 = 0",
-                "take 0 0 1 = -9", "pay 0 0 5 = 5", "take 0 0 6 = -9", "take 0 1 1 = -9", "take 0 0 5 = 0",
-                "take 0 0 1 = -9", "contract 0 0 50", "pay 0 0 3", "trade 0 4 0 1 54", "settle = 1",
+        S.run("2* member 0; client 0", "ofAccount 0 0 = 0", "ofAccount 1 1 = 0", "ofAccount 2 2 = 0",
+                "ofAccount 2 3 = 0", "take 0 0 1 = -9", "pay 0 0 5 = 5", "take 0 0 6 = -9", "take 0 1 1 = -9",
+                "take 0 0 5 = 0", "take 0 0 1 = -9", "contract 0 0 50", "pay 0 0 3", "trade 0 4 0 1 54", "settle = 1",
                 "ofAccount 0 0 = 0", "ofAccount 4 0 = 3", "total 0 0 = 3");
         S.sentence("amount 1 to 9999");
         S.run("member 0", "pay 0 0 0 ! value", "pay 0 0 1 = 1", "pay 0 0 9999 = 10000", "pay 0 0 10000 ! value",
@@ -98,11 +100,11 @@ public final class EdgeHouseTest {
 
     private static void series() {
         S.sentence("SERIES: at most 8, numbered from 0");
-        S.run("house 3 = 0", "contract 0 0 50 = 0", "option 0 1 50 0 = 1", "contract 1 0 50 = 2", "option 2 0 50 0 = 3",
-                "option 2 1 50 0 = 4", "contract 2 5 50 = 5", "contract 2 4 50 = 6", "option 6 1 9 9 = 7", "house 3 = 8",
-                "contract 0 0 50 ! state", "option 0 1 50 0 ! state", "ofSeries 8 0 ! index", "price 8 5 ! index",
-                "undo = 7", "house 3 = 7", "ofSeries 7 0 ! index", "contract 2 5 99 = 7", "option 7 1 0 0 ! state",
-                "ofSeries 7 3 = 99", "ofSeries 7 4 = -1");
+        S.run("house 3 = 0", "contract 0 0 50 = 0", "option 0 1 50 0 = 1", "contract 1 0 50 = 2",
+                "option 2 0 50 0 = 3", "option 2 1 50 0 = 4", "contract 2 5 50 = 5", "contract 2 4 50 = 6",
+                "option 6 1 9 9 = 7", "house 3 = 8", "contract 0 0 50 ! state", "option 0 1 50 0 ! state",
+                "ofSeries 8 0 ! index", "price 8 5 ! index", "undo = 7", "house 3 = 7", "ofSeries 7 0 ! index",
+                "contract 2 5 99 = 7", "option 7 1 0 0 ! state", "ofSeries 7 3 = 99", "ofSeries 7 4 = -1");
         S.sentence("a CONTRACT has a GOOD and a MONTH (0 to 5), STRIKE (0 to 99), PRICE (0 to 99)");
         S.run("contract 0 0 0 = 0", "contract 2 5 99 = 1", "ofSeries 0 1 = 0", "ofSeries 1 1 = 2", "ofSeries 0 2 = 0",
                 "ofSeries 1 2 = 5", "ofSeries 0 3 = 0", "ofSeries 1 3 = 99", "contract 0 6 0 ! value",
@@ -133,9 +135,10 @@ public final class EdgeHouseTest {
                 "trade 0 4 0 51 50 ! value", "trade 0 4 0 1 -1 ! value", "trade 0 4 0 1 100 ! value",
                 "trade 0 4 0 1 0 = 0", "trade 0 1 0 49 99 = 1", "trade 1 5 0 50 50 = 2", "position 1 0 = 1");
         S.sentence("its number among the trades of this DAY, from 0");
-        S.run("2* member 0; contract 0 0 50", "house 6 = 0", "trade 0 4 0 1 50 = 0", "pay 0 0 5", "trade 0 4 0 1 50 = 1",
-                "limit 0 2", "trade 0 4 0 1 50 = -9", "trade 4 0 0 1 50 = 2", "house 6 = 3", "undo", "house 6 = 2",
-                "trade 4 0 0 1 50 = 2", "settle", "house 6 = 0", "ofTrade 0 0 ! index", "trade 4 0 0 1 50 = 0");
+        S.run("2* member 0; contract 0 0 50", "house 6 = 0", "trade 0 4 0 1 50 = 0", "pay 0 0 5",
+                "trade 0 4 0 1 50 = 1", "limit 0 2", "trade 0 4 0 1 50 = -9", "trade 4 0 0 1 50 = 2", "house 6 = 3",
+                "undo", "house 6 = 2", "trade 4 0 0 1 50 = 2", "settle", "house 6 = 0", "ofTrade 0 0 ! index",
+                "trade 4 0 0 1 50 = 0");
     }
 
     private static void prices() {
@@ -145,7 +148,8 @@ public final class EdgeHouseTest {
                 "price 0 99 ! state", "undo", "ofAccount 0 2 = 0", "price 0 0 = 0", "ofAccount 0 2 = 0",
                 "price 0 1 ! state");
         S.run("2* member 0; contract 2 0 99; trade 0 4 0 1 99; settle", "price 0 0 = 99", "ofAccount 0 3 = -99",
-                "ofAccount 4 3 = 99", "ofAccount 0 2 = 0", "pay 0 1 99; settle", "price 0 99 = 0", "ofAccount 0 3 = 99");
+                "ofAccount 4 3 = 99", "ofAccount 0 2 = 0", "pay 0 1 99; settle", "price 0 99 = 0",
+                "ofAccount 0 3 = 99");
         S.sentence("its PRICE (that counts as told on this DAY)");
         S.run("contract 0 0 50; option 0 1 50 5", "ofSeries 0 6 = 1", "ofSeries 1 6 = 1", "price 0 50 ! state",
                 "price 1 50 ! state", "settle", "ofSeries 0 6 = 0", "ofSeries 1 6 = 0", "price 1 6 = 5",

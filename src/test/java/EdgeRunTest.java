@@ -1,4 +1,4 @@
-/** "An object is used for at most 512 calls": runs that are as long as can be, and the greatest numbers that they make. */
+/** "An object is used for at most 512 calls": runs as long as can be, and the greatest numbers that they make. */
 public final class EdgeRunTest {
     private static final int MOST_CALLS = 512;
     private static final Check C = new Check("EdgeRunTest");
@@ -127,7 +127,8 @@ public final class EdgeRunTest {
     /** Options bought and used in turn make a position in the contract that no limit holds. */
     private static void greatestPosition() {
         Marginhouse x = new Marginhouse();
-        Script.say(x, "2* member 0; contract 2 5 50; option 0 1 0 0; scenario; shift 0 2 -20 -5; rate 9; big 2 0 9; stress 50");
+        Script.say(x, "2* member 0; contract 2 5 50; option 0 1 0 0; scenario; shift 0 2 -20 -5", "rate 9; big 2 0 9",
+                "stress 50");
         for (int times = 0; times < 240; times++) {
             C.due("trade()", times, x.trade(0, 4, 1, 50, 0));
             C.due("use()", 1, x.use(0, 1, 50, times % 20));

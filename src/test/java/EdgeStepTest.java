@@ -10,49 +10,52 @@ public final class EdgeStepTest {
     private static final Check C = new Check("EdgeStepTest");
 
     /**
-     * Nothing is as at first on the day 1: member 1 is out (4 has 3 lots of the series 0, 6 has 4 of 1), 3 is a link; all
-     * terms are told, the fund and the part are filled, and something was borne and delivered.
+     * Nothing is as at first on the day 1: member 1 is out (4 has 3 lots of the series 0, 6 has 4 of 1), 3 is a link;
+     * all terms are told, the fund and the part are filled, and something was borne and delivered.
      */
     private static final String[] DAY_0 = {
-        "member 0", "member 0", "member 0", "member 1", "client 0", "client 1", "client 1", "limit 2 61", "limit 3 9",
-        "contract 0 1 60", "contract 2 2 40", "option 0 1 50 10", "scenario", "scenario", "shift 0 0 -9 1", "shift 0 2 20 0",
-        "shift 1 1 4 -2", "rate 3", "counts 0 9", "counts 1 8", "offset 4", "big 0 2 3", "big 2 1 2", "stress 23",
-        "pay 0 0 300", "pay 4 0 12", "pay 8 0 90", "pay 8 1 50", "pay 6 1 50", "pay 0 1 7", "take 0 1 2", "give 0 0 6",
-        "give 2 1 5", "give 1 0 3", "endow 0 2", "endow 1 9", "trade 4 0 0 4 70", "trade 6 8 1 4 40", "trade 0 12 0 1 60",
-        "deliver 0 0 1 5", "knock", "settle",
+        "member 0", "member 0", "member 0", "member 1", "client 0", "client 1", "client 1", "limit 2 61",
+        "limit 3 9", "contract 0 1 60", "contract 2 2 40", "option 0 1 50 10", "scenario", "scenario",
+        "shift 0 0 -9 1", "shift 0 2 20 0", "shift 1 1 4 -2", "rate 3", "counts 0 9", "counts 1 8", "offset 4",
+        "big 0 2 3", "big 2 1 2", "stress 23", "pay 0 0 300", "pay 4 0 12", "pay 8 0 90", "pay 8 1 50", "pay 6 1 50",
+        "pay 0 1 7", "take 0 1 2", "give 0 0 6", "give 2 1 5", "give 1 0 3", "endow 0 2", "endow 1 9",
+        "trade 4 0 0 4 70", "trade 6 8 1 4 40", "trade 0 12 0 1 60", "deliver 0 0 1 5", "knock", "settle",
     };
 
     /** Calls that are done in that house, each kind at least once; 0 has 4 of the option 2. */
     private static final String[] DAY_1 = {"trade 0 8 2 5 10", "trade 0 8 0 1 60", "price 1 41"};
 
     private static final String[] CHANGES = {
-        "member 0", "member 1", "client 2", "client 0", "limit 2 77", "limit 3 1", "contract 1 2 33", "option 1 0 44 4",
-        "option 0 1 66 4", "scenario", "shift 0 1 3 2", "shift 1 0 20 5", "shift 0 0 4 4", "rate 7", "counts 0 3", "counts 1 0",
-        "offset 2", "big 1 3 4", "big 0 9 9", "stress 34", "pay 0 1 9", "pay 6 0 4", "take 0 0 5", "take 0 1 1", "give 2 1 6",
-        "give 0 0 1", "endow 1 8", "endow 0 9", "price 0 66", "price 2 0", "trade 0 8 0 3 64", "trade 8 12 1 2 39", "call 8",
-        "settle", "correct 0 61", "correct 1 0", "sell 4 0 8 55", "sell 6 1 0 43", "tear 0", "tear 1", "move 6 2", "move 7 0",
-        "use 0 2 2 9", "deliver 8 1 1 3", "deliver 0 0 1 19",
+        "member 0", "member 1", "client 2", "client 0", "limit 2 77", "limit 3 1", "contract 1 2 33",
+        "option 1 0 44 4", "option 0 1 66 4", "scenario", "shift 0 1 3 2", "shift 1 0 20 5", "shift 0 0 4 4",
+        "rate 7", "counts 0 3", "counts 1 0", "offset 2", "big 1 3 4", "big 0 9 9", "stress 34", "pay 0 1 9",
+        "pay 6 0 4", "take 0 0 5", "take 0 1 1", "give 2 1 6", "give 0 0 1", "endow 1 8", "endow 0 9", "price 0 66",
+        "price 2 0", "trade 0 8 0 3 64", "trade 8 12 1 2 39", "call 8", "settle", "correct 0 61", "correct 1 0",
+        "sell 4 0 8 55", "sell 6 1 0 43", "tear 0", "tear 1", "move 6 2", "move 7 0", "use 0 2 2 9",
+        "deliver 8 1 1 3", "deliver 0 0 1 19",
     };
 
     private static final String[] AFTERWARDS = {
-        "knock", "member 0", "client 2", "contract 0 2 50", "option 0 0 70 8", "scenario", "shift 0 0 2 2", "pay 8 0 30",
-        "price 0 50", "price 1 44", "trade 0 8 0 2 48", "trade 8 0 1 2 41", "correct 0 33", "correct 1 5", "use 0 2 1 7",
-        "deliver 0 0 1 6", "call 8", "sell 4 0 2 50", "tear 1", "settle", "price 0 61", "move 6 0", "settle",
+        "knock", "member 0", "client 2", "contract 0 2 50", "option 0 0 70 8", "scenario", "shift 0 0 2 2",
+        "pay 8 0 30", "price 0 50", "price 1 44", "trade 0 8 0 2 48", "trade 8 0 1 2 41", "correct 0 33",
+        "correct 1 5", "use 0 2 1 7", "deliver 0 0 1 6", "call 8", "sell 4 0 2 50", "tear 1", "settle", "price 0 61",
+        "move 6 0", "settle",
     };
 
     /** Calls that throw or are refused in that house, each kind at least once. */
     private static final String[] NOT_DONE = {
-        "client 3", "client 1", "client 4", "limit 0 0", "limit 0 201", "limit 4 5", "contract 3 0 0", "contract 0 6 0",
-        "contract 0 0 100", "option 2 1 5 5", "option 3 1 5 5", "option 0 1 100 5", "shift 2 0 0 0", "shift 0 3 0 0",
-        "shift 0 0 21 0", "shift 0 0 0 6", "rate 0", "rate 10", "counts 2 5", "counts 0 11", "offset 11", "big 3 5 5",
-        "big 0 201 5", "big 0 5 10", "stress 51", "pay 3 0 5", "pay 0 2 5", "pay 0 0 0", "pay 0 0 10000", "take 0 0 9999",
-        "take 0 1 6", "take 6 1 1", "take 8 1 1", "give 1 0 5", "give 3 0 5", "give 0 0 0", "endow 2 5", "endow 0 0",
-        "price 1 41", "price 0 100", "price 3 5", "trade 0 12 0 9 60", "trade 8 0 0 50 60", "trade 0 0 0 1 60",
-        "trade 4 0 0 1 60", "trade 0 4 0 1 60", "trade 0 8 0 51 60", "trade 0 8 3 1 60", "call 0", "call 4", "call 3",
-        "correct 2 50", "correct -1 50", "correct 0 100", "sell 0 0 8 50", "sell 4 0 5 50", "sell 4 1 0 50", "sell 4 0 8 100",
-        "tear 2", "tear 3", "move 4 0", "move 6 1", "move 6 3", "move 2 2", "move 6 4", "use 0 2 6 0", "use 0 0 1 0",
-        "use 4 2 1 0", "use 0 2 1 20", "use 8 2 1 0", "deliver 0 0 4 0", "deliver 0 2 1 0", "deliver 4 0 1 0",
-        "deliver 0 0 1 -1", "deliver 8 1 5 0",
+        "client 3", "client 1", "client 4", "limit 0 0", "limit 0 201", "limit 4 5", "contract 3 0 0",
+        "contract 0 6 0", "contract 0 0 100", "option 2 1 5 5", "option 3 1 5 5", "option 0 1 100 5",
+        "shift 2 0 0 0", "shift 0 3 0 0", "shift 0 0 21 0", "shift 0 0 0 6", "rate 0", "rate 10", "counts 2 5",
+        "counts 0 11", "offset 11", "big 3 5 5", "big 0 201 5", "big 0 5 10", "stress 51", "pay 3 0 5", "pay 0 2 5",
+        "pay 0 0 0", "pay 0 0 10000", "take 0 0 9999", "take 0 1 6", "take 6 1 1", "take 8 1 1", "give 1 0 5",
+        "give 3 0 5", "give 0 0 0", "endow 2 5", "endow 0 0", "price 1 41", "price 0 100", "price 3 5",
+        "trade 0 12 0 9 60", "trade 8 0 0 50 60", "trade 0 0 0 1 60", "trade 4 0 0 1 60", "trade 0 4 0 1 60",
+        "trade 0 8 0 51 60", "trade 0 8 3 1 60", "call 0", "call 4", "call 3", "correct 2 50", "correct -1 50",
+        "correct 0 100", "sell 0 0 8 50", "sell 4 0 5 50", "sell 4 1 0 50", "sell 4 0 8 100", "tear 2", "tear 3",
+        "move 4 0", "move 6 1", "move 6 3", "move 2 2", "move 6 4", "use 0 2 6 0", "use 0 0 1 0", "use 4 2 1 0",
+        "use 0 2 1 20", "use 8 2 1 0", "deliver 0 0 4 0", "deliver 0 2 1 0", "deliver 4 0 1 0", "deliver 0 0 1 -1",
+        "deliver 8 1 5 0",
     };
 
     /** What is asked, with each "#" all numbers from 0 to 20; those that throw are asked too. */

@@ -61,7 +61,7 @@ public final class RoomTest {
         fill(x);
         for (int i = 0; i < 2000; i++) {
             for (String call : new String[] {"trade " + i % 20 + " " + (i + 1) % 20 + " " + i % 8 + " 1 50",
-                "correct " + i + " " + i % 100, "settle", "endow 0 1", "undo", "ofTrade " + i + " 4", "isSound", "digest"}) {
+                "correct " + i + " " + i % 100, "settle", "endow 0 1", "undo", "ofTrade " + i + " 4", "isSound"}) {
                 String got = i % 40 == 0 || !call.equals("settle") ? Script.answer(x, call) : "";
                 C.due(call + " fails by itself", false, got.contains("Exception"));
             }

@@ -34,8 +34,9 @@ public final class SoundTest {
         for (int good = 1; good <= 2; good++) {
             Marginhouse z = new Marginhouse();
             int money = good - 1;
-            Script.say(z, "3* member 0; contract " + good + " 0 50; trade 0 4 0 1 54; trade 0 8 0 1 56; give 0 " + money + " 1",
-                    "endow " + money + " 2; give 1 " + money + " 3; pay 4 " + money + " 9; take 4 " + money + " 5");
+            Script.say(z, "3* member 0; contract " + good + " 0 50; trade 0 4 0 1 54; trade 0 8 0 1 56",
+                    "give 0 " + money + " 1; endow " + money + " 2; give 1 " + money + " 3",
+                    "pay 4 " + money + " 9; take 4 " + money + " 5");
             C.due("with a fund, a part, and something paid out", true, z.isSound());
             z.settle();
             for (int what = 1; what <= 4; what++) {
