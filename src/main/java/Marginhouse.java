@@ -52,10 +52,10 @@ public final class Marginhouse {
     private static final int RUNGS = 5;
 
     // What a word answers if it can not be said. True answers are far from these; -9 can be one (a SHIFT before).
-    private static final int NO_SUCH = Integer.MIN_VALUE;
-    private static final int BAD_VALUE = Integer.MIN_VALUE + 1;
-    private static final int BAD_STATE = Integer.MIN_VALUE + 2;
-    private static final int NOT_DONE = Integer.MIN_VALUE + 3;
+    private static final int NO_SUCH = -2_000_000_001;
+    private static final int BAD_VALUE = -2_000_000_002;
+    private static final int BAD_STATE = -2_000_000_003;
+    private static final int NOT_DONE = -2_000_000_004;
 
     private static final int SAY_MEMBER = 0;
     private static final int SAY_CLIENT = 1;
